@@ -435,6 +435,8 @@ public final class InodeVolumes {
 
     /** The entries of one directory, one at a time. */
     private static final class Entries {
+        private static final long INODE_BITS = 0xFFFFFFFFL;
+
         private final Disk disk;
         private final Layout layout;
         private int directory;
@@ -442,6 +444,8 @@ public final class InodeVolumes {
         private long offset;
         private int order;
         private long place;
+        /** The entry's first eight bytes; 0 if they are not on the disk, which is an entry that does not fit. */
+        private long head;
 
         Entries(Disk disk, Layout layout) {
             this.disk = disk;
@@ -454,6 +458,7 @@ public final class InodeVolumes {
             offset = 0;
             order = 0;
             place = BLOCK * layout.blockOf(inode, 0);
+            head = disk.number(place, 8);
         }
 
         boolean isOn() {
@@ -465,6 +470,7 @@ public final class InodeVolumes {
             offset += Math.max(LEAST_ENTRY, length());
             order++;
             place = BLOCK * layout.blockOf(directory, (int) (offset / BLOCK)) + offset % BLOCK;
+            head = disk.number(place, 8);
         }
 
         int order() {
@@ -472,23 +478,23 @@ public final class InodeVolumes {
         }
 
         int inode() {
-            return (int) disk.number(place, 4);
+            return (int) head;
         }
 
         boolean hasInode() {
-            return layout.isInode(disk.number(place, 4));
+            return layout.isInode(head & INODE_BITS);
         }
 
         int length() {
-            return (int) disk.number(place + 4, 2);
+            return (int) (head >>> 32) & 0xFFFF;
         }
 
         int nameLength() {
-            return (int) disk.number(place + 6, 1);
+            return (int) (head >>> 48) & 255;
         }
 
         int mark() {
-            return (int) disk.number(place + 7, 1);
+            return (int) (head >>> 56);
         }
 
         int nameByte(int i) {
@@ -496,11 +502,11 @@ public final class InodeVolumes {
         }
 
         boolean isEmpty() {
-            return order >= 2 && disk.number(place, 4) == 0;
+            return order >= 2 && (head & INODE_BITS) == 0;
         }
 
         boolean isItem() {
-            return order >= 2 && disk.number(place, 4) != 0;
+            return order >= 2 && (head & INODE_BITS) != 0;
         }
 
         boolean fits() {
