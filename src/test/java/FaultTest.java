@@ -18,6 +18,7 @@ public final class FaultTest {
         links();
         inodes();
         maps();
+        crowd();
         changes();
         check.end();
     }
@@ -302,6 +303,8 @@ public final class FaultTest {
             VolumeMaker v = new VolumeMaker(128, 64, 16);
             v.file(v.root, "f", 12, size);
             judge("a file of " + size, 0, v.make());
+            v.poke(v.inodePlace(12) + (size > 12 * 1024 ? 92 : 88), 4, 120);
+            judge("a file of " + size + " with a pointer that is not wanted", 4, v);
         }
         expectMade("a directory with an indirect block", 0, v -> inside(v.root, 0).leastBlocks = 14);
         VolumeMaker v = small();
@@ -438,7 +441,10 @@ public final class FaultTest {
                 expect(who + n + " long", 5, v -> v.poke(v.entryPlace(v.root, item) + 4, 2, n));
             }
         }
-        expect("a name longer than its entry", 5, v -> v.poke(v.entryPlace(v.root, 1) + 6, 1, 5));
+        expect("a name longer than its entry", 5, v -> {
+            v.poke(v.entryPlace(v.root, 1) + 6, 1, 5);
+            v.poke(v.entryPlace(v.root, 1) + 8, 4, 0x64636261);
+        });
         expect("a name as long as its entry", 0, v -> {
             v.poke(v.entryPlace(v.root, 1) + 6, 1, 4);
             v.poke(v.entryPlace(v.root, 1) + 8, 4, 0x64636261);
@@ -634,6 +640,24 @@ public final class FaultTest {
             v.taken[inside(v.root, 1).blocks.get(1)] = false;
             v.count();
         });
+    }
+
+    /** Far more items than blocks, since files and directories of no size have none. */
+    private static void crowd() {
+        VolumeMaker v = new VolumeMaker(512, 256, 1600);
+        for (int i = 12; i <= 3200; i++) {
+            v.file(v.root, "" + i, i, 0);
+        }
+        v.make();
+        InodeVolumes x = v.load();
+        check.same("all inodes are files", x.fault(), 0);
+        check.same("all inodes are items", x.items(), 3189);
+        check.same("the last one", x.about(3188, 0), 3200);
+        for (int k = 0; k < 3189; k++) {
+            x.put(v.inodePlace(12 + k), 2, 16384);
+            x.put(v.entryPlace(v.root, k) + 7, 1, 2);
+        }
+        check.same("all inodes are directories of no size", x.fault(), 5);
     }
 
     /** The fault is looked for anew behind each change, and only by what stands there then. */

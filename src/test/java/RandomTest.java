@@ -48,7 +48,7 @@ public final class RandomTest {
     }
 
     /** Puts what differs; later calls than the 512th are this class's own affair, which counts none. */
-    private static void carry(InodeVolumes x, byte[] now, byte[] before) {
+    static void carry(InodeVolumes x, byte[] now, byte[] before) {
         for (int at = 0; at < now.length; at++) {
             if (now[at] != before[at]) {
                 x.put(at, 1, now[at]);
@@ -56,10 +56,13 @@ public final class RandomTest {
         }
     }
 
-    /** A volume with a tree of some items; null if its groups have no room. */
     static VolumeMaker anyVolume(Random random) {
+        return anyVolume(random, 128 + random.nextInt(random.nextBoolean() ? 385 : 30));
+    }
+
+    /** A volume with a tree of some items; null if its groups have no room. */
+    static VolumeMaker anyVolume(Random random, int blocks) {
         int perGroup = 64 << random.nextInt(3);
-        int blocks = 128 + random.nextInt(random.nextBoolean() ? 385 : 30);
         int inodes = 8 * (1 + random.nextInt(random.nextInt(4) == 0 ? 30 : 5));
         VolumeMaker v = new VolumeMaker(blocks, perGroup, inodes);
         if (!v.roomy()) {

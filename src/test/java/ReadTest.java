@@ -10,6 +10,7 @@ public final class ReadTest {
     public static void main(String[] args) {
         whole(FaultTest.small().make());
         whole(odd().make());
+        whole(dressed());
         whole(large(269).make());
         whole(large(480).make());
         bare();
@@ -38,6 +39,22 @@ public final class ReadTest {
         return v;
     }
 
+    /** Bytes beside those that are asked for, in inodes and in entries. */
+    private static VolumeMaker dressed() {
+        VolumeMaker v = FaultTest.small().make();
+        for (int inode : new int[] {2, 11, 12, 13, 14, 15, 20}) {
+            int at = v.inodePlace(inode);
+            v.poke(at, 2, v.peek(at, 2) | 4095);
+            v.poke(at + 2, 2, -1);
+            v.poke(at + 8, 8, -1);
+            v.poke(at + 20, 6, -1);
+            v.poke(at + 32, 8, -1);
+            v.poke(at + 100, 8, -1);
+        }
+        v.poke(v.entryPlace(v.root, 1) + 9, 3, -1);
+        return v;
+    }
+
     private static VolumeMaker large(int blocks) {
         VolumeMaker v = new VolumeMaker(512, 256, 16);
         v.any = new Random(blocks);
@@ -48,7 +65,10 @@ public final class ReadTest {
 
     /** Every answer about everything in the volume. */
     private static void whole(VolumeMaker v) {
-        InodeVolumes x = v.load();
+        whole(v.load(), v);
+    }
+
+    private static void whole(InodeVolumes x, VolumeMaker v) {
         check.same("fault", x.fault(), 0);
         walk(x, v, v.root);
         check.same("at the root again", x.up(), false);
@@ -226,6 +246,17 @@ public final class ReadTest {
             VolumeMaker v = RandomTest.anyVolume(random);
             if (v != null) {
                 whole(v);
+            }
+        }
+        // One object with one volume behind another: nothing may be left of those before.
+        InodeVolumes x = new InodeVolumes(320);
+        byte[] before = new byte[320 * 1024];
+        for (int run = 0; run < 40; run++) {
+            VolumeMaker v = RandomTest.anyVolume(random, 320);
+            if (v != null) {
+                RandomTest.carry(x, v.image, before);
+                before = v.image;
+                whole(x, v);
             }
         }
     }
