@@ -220,8 +220,9 @@ public final class InodeVolumes {
             return blocks;
         }
 
+        /** Of no bytes none is off the disk, wherever their place is. */
         boolean holds(long at, int n) {
-            return n >= 0 && at >= 0 && at <= size - n;
+            return n == 0 || n > 0 && at >= 0 && at <= size - n;
         }
 
         /** 0 for what is not on the disk: a pointer is followed before anybody knows that it is a good one. */

@@ -29,11 +29,21 @@ public final class BytesTest {
             check.same("copy more than all of " + s[0], x.copy(0, 0, end + 1), false);
         }
         InodeVolumes x = new InodeVolumes(128);
+        check.same("all bytes of a new object together", allBytes(x, 128 * 1024), 0);
+    }
+
+    /** Places on the disk, at its edges and far off it. */
+    private static int[] placesAnywhere(int end) {
+        return new int[] {0, 5, 8, end - 1, end, end + 1, -1, -8, Integer.MIN_VALUE, Integer.MAX_VALUE};
+    }
+
+    /** One number of all bytes, 0 if they are all 0; another one as soon as a single byte is another. */
+    private static int allBytes(InodeVolumes x, int end) {
         int sum = 0;
-        for (int at = 0; at < 128 * 1024; at++) {
-            sum |= x.byteAt(at);
+        for (int at = 0; at < end; at++) {
+            sum = 31 * sum + x.byteAt(at);
         }
-        check.same("all bytes of a new object together", sum, 0);
+        return sum;
     }
 
     private static void putEdges() {
@@ -67,11 +77,11 @@ public final class BytesTest {
     private static void fillEdges() {
         InodeVolumes x = new InodeVolumes(128);
         int end = 128 * 1024;
-        check.same("fill of none", x.fill(5, 0, 1), true);
-        check.same("fill of none at the end", x.fill(end, 0, 1), true);
-        check.same("fill of none changes nothing", x.byteAt(5), 0);
-        check.same("fill of none before the disk", x.fill(-1, 0, 1), false);
-        check.same("fill of none behind the disk", x.fill(end + 1, 0, 1), false);
+        for (int at : placesAnywhere(end)) {
+            check.same("fill of none at " + at, x.fill(at, 0, 1), true);
+            check.same("fill of -1 at " + at, x.fill(at, -1, 1), false);
+        }
+        check.same("fills of none change nothing", allBytes(x, end), 0);
         check.same("fill of -1", x.fill(5, -1, 1), false);
         check.same("fill of the least", x.fill(5, Integer.MIN_VALUE, 1), false);
         check.same("fill of the most", x.fill(5, Integer.MAX_VALUE, 1), false);
@@ -91,9 +101,14 @@ public final class BytesTest {
         InodeVolumes x = new InodeVolumes(128);
         int end = 128 * 1024;
         x.put(0, 8, 0x0807060504030201L);
-        check.same("copy of none", x.copy(0, end, 0), true);
-        check.same("copy of none from behind", x.copy(end + 1, 0, 0), false);
-        check.same("copy of none to before", x.copy(0, -1, 0), false);
+        int before = allBytes(x, end);
+        for (int from : placesAnywhere(end)) {
+            for (int to : placesAnywhere(end)) {
+                check.same("copy of none from " + from + " to " + to, x.copy(from, to, 0), true);
+                check.same("copy of -1 from " + from + " to " + to, x.copy(from, to, -1), false);
+            }
+        }
+        check.same("copies of none change nothing", allBytes(x, end), before);
         check.same("copy of -1", x.copy(0, 8, -1), false);
         check.same("copy of the least", x.copy(0, 8, Integer.MIN_VALUE), false);
         check.same("copy of the most", x.copy(0, 8, Integer.MAX_VALUE), false);
@@ -155,17 +170,17 @@ public final class BytesTest {
             }
             case 1: {
                 int value = random.nextInt();
-                boolean good = n >= 0 && at >= 0 && at + n <= end;
+                boolean good = n == 0 || n > 0 && at >= 0 && at + n <= end;
                 check.same("fill(" + at + ", " + n + ")", x.fill(at, n, value), good);
-                if (good) {
+                if (good && n > 0) {
                     java.util.Arrays.fill(row, at, at + n, (byte) value);
                 }
                 break;
             }
             default: {
-                boolean good = n >= 0 && at >= 0 && at + n <= end && to >= 0 && to + n <= end;
+                boolean good = n == 0 || n > 0 && at >= 0 && at + n <= end && to >= 0 && to + n <= end;
                 check.same("copy(" + at + ", " + to + ", " + n + ")", x.copy(at, to, n), good);
-                if (good) {
+                if (good && n > 0) {
                     System.arraycopy(row, at, row, to, n);
                 }
             }

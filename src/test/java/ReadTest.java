@@ -195,22 +195,25 @@ public final class ReadTest {
     /** Each put, fill, copy that answered true makes the root HERE; nothing else does. */
     private static void hereAgain() {
         InodeVolumes x = FaultTest.small().make().load();
-        String[] calls = {"put", "fill", "fill of none", "copy", "copy of none"};
+        int end = 128 * 1024;
+        String[] calls = {"put", "fill", "fill of none", "fill of none before the disk", "fill of none behind it",
+            "copy", "copy of none", "copy of none from before the disk", "copy of none to behind it"};
         for (int c = 0; c < calls.length; c++) {
             check.same("enter sub", x.enter(2), 2);
             check.same("enter deep", x.enter(0), 0);
             x.put(0, 0, 1);
             x.put(-1, 1, 1);
             x.fill(0, -1, 1);
-            x.fill(128 * 1024, 1, 1);
+            x.fill(end, 1, 1);
             x.copy(0, 1, -1);
-            x.copy(0, 128 * 1024, 1);
+            x.copy(0, end, 1);
             x.byteAt(0);
             x.fault();
             check.raises("nothing in deep", BOUNDS, () -> x.enter(0));
             check.same("still in deep", x.items(), 0);
             boolean done = c == 0 ? x.put(0, 1, 0) : c == 1 ? x.fill(0, 1, 0) : c == 2 ? x.fill(0, 0, 0)
-                    : c == 3 ? x.copy(0, 1, 1) : x.copy(0, 1, 0);
+                    : c == 3 ? x.fill(-1, 0, 7) : c == 4 ? x.fill(end + 1, 0, 7) : c == 5 ? x.copy(0, 1, 1)
+                    : c == 6 ? x.copy(0, 1, 0) : c == 7 ? x.copy(-1, 0, 0) : x.copy(0, end + 1, 0);
             check.same(calls[c], done, true);
             check.same("items behind " + calls[c], x.items(), 4);
             check.same("up behind " + calls[c], x.up(), false);
