@@ -34,8 +34,11 @@ public final class FaceTest {
         return text.toString();
     }
 
-    public static void main(String[] args) throws Exception {
-        Check check = new Check("FaceTest");
+    public static void main(String[] args) {
+        Cases.run(FaceTest.class);
+    }
+
+    static void promises_haveTheDocumentsFace(Check check) {
         Class<?> face = InodeVolumes.class;
         check.yes("the class is public and final",
                 Modifier.isPublic(face.getModifiers()) && Modifier.isFinal(face.getModifiers()));
@@ -71,6 +74,5 @@ public final class FaceTest {
             check.yes(inside + " is static and not to be seen from outside", Modifier.isStatic(inside.getModifiers())
                     && !Modifier.isPublic(inside.getModifiers()) && !Modifier.isProtected(inside.getModifiers()));
         }
-        check.end();
     }
 }

@@ -364,9 +364,20 @@ final class VolumeMaker {
         }
     }
 
+    InodeVolumes load() {
+        return loadInto(new InodeVolumes(blocks));
+    }
+
     /** A new object with the image on its disk; calls gets the number of calls that it took. */
     InodeVolumes load(int[] calls) {
-        InodeVolumes volume = new InodeVolumes(blocks);
+        return load(new InodeVolumes(blocks), calls);
+    }
+
+    InodeVolumes loadInto(InodeVolumes empty) {
+        return load(empty, new int[1]);
+    }
+
+    private InodeVolumes load(InodeVolumes volume, int[] calls) {
         for (int at = 0; at < image.length;) {
             int run = 1;
             while (at + run < image.length && image[at + run] == image[at]) {
@@ -392,9 +403,5 @@ final class VolumeMaker {
             at += n;
         }
         return volume;
-    }
-
-    InodeVolumes load() {
-        return load(new int[1]);
     }
 }

@@ -3,11 +3,13 @@ import java.util.Arrays;
 import java.util.List;
 import java.util.Random;
 
-/** Promise 6 again: volumes by chance, changed by chance, and the reference's answer. */
-public final class RandomTest {
-    private static final Check check = new Check("RandomTest");
-
+/** Promise 6: volumes by chance, changed by chance, and the reference's answer. */
+public final class Promise06ByChanceTest {
     public static void main(String[] args) {
+        Cases.run(Promise06ByChanceTest.class);
+    }
+
+    static void promise6_asTheReferenceSays(Check check) {
         Random random = new Random(2026);
         int[] seen = new int[9];
         for (int run = 0; run < 150; run++) {
@@ -40,11 +42,10 @@ public final class RandomTest {
             }
             check.same("sound again, run " + run, x.fault(), 0);
         }
-        System.out.println("RandomTest: how often each fault came: " + Arrays.toString(seen));
+        System.out.println("Promise06ByChanceTest: how often each fault came: " + Arrays.toString(seen));
         for (int f = 0; f < seen.length; f++) {
             check.yes("fault " + f + " came " + seen[f] + " times", seen[f] >= 50);
         }
-        check.end();
     }
 
     /** Puts what differs; later calls than the 512th are this class's own affair, which counts none. */

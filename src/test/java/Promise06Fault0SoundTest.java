@@ -1,0 +1,146 @@
+/** Promise 6: 0 without a fault, and what the document does not name does not count. */
+public final class Promise06Fault0SoundTest {
+    public static void main(String[] args) {
+        Cases.run(Promise06Fault0SoundTest.class);
+    }
+
+    static void promise6_sound_theSmallVolume(Check check) {
+        Volumes.judge(check, "the small volume", 0, Volumes.small().make());
+    }
+
+    static void promise6_sound_theLeastVolume(Check check) {
+        Volumes.judge(check, "8 inodes, a root with nothing in it", 0, Volumes.bare().make());
+    }
+
+    static void promise6_sound_groupsOfEachSize(Check check) {
+        int[][] shapes = {{128, 256, 32}, {256, 256, 64}, {257, 256, 64}, {512, 256, 24}, {129, 128, 24},
+            {129, 64, 16}, {256, 128, 80}, {512, 64, 8}, {512, 128, 8}, {135, 64, 16}, {512, 256, 1800}, {385, 128, 32}};
+        for (int[] s : shapes) {
+            Volumes.judge(check, s[0] + " blocks, " + s[1] + " in a group, " + s[2] + " inodes", 0,
+                    Volumes.small(s[0], s[1], s[2]).make());
+        }
+    }
+
+    static void promise6_sound_everyBlockIsUsed(Check check) {
+        VolumeMaker v = Volumes.full();
+        check.same("free blocks", v.freeBlocks(), 0);
+        check.same("fault", v.load().fault(), 0);
+        check.same("by the reference", Reference.fault(v.image), 0);
+        v = Volumes.bare();
+        v.file(v.root, "all", 3, 120 * 1024).blank = true;
+        v.make();
+        check.same("free blocks of one group", v.freeBlocks(), 0);
+        Volumes.judge(check, "one group, full", 0, v);
+    }
+
+    static void promise6_sound_everyInodeIsUsed(Check check) {
+        VolumeMaker v = new VolumeMaker(128, 64, 16);
+        for (int i = 12; i <= 32; i++) {
+            v.file(v.root, "" + i, i, 0);
+        }
+        v.make();
+        check.same("free inodes", v.peek(Volumes.SUPER + 16, 4), 0);
+        Volumes.judge(check, "no inode is free", 0, v);
+    }
+
+    /** Far more items than blocks, since files of no size have none. */
+    static void promise6_sound_thousandsOfItems(Check check) {
+        VolumeMaker v = new VolumeMaker(512, 256, 1600);
+        for (int i = 12; i <= 3200; i++) {
+            v.file(v.root, "" + i, i, 0);
+        }
+        v.make();
+        check.same("fault", v.load().fault(), 0);
+        check.same("by the reference", Reference.fault(v.image), 0);
+    }
+
+    static void promise6_sound_aChainOfManyDirectories(Check check) {
+        VolumeMaker v = new VolumeMaker(512, 256, 256);
+        VolumeMaker.Node n = v.root;
+        for (int i = 0; i < 430; i++) {
+            n = v.directory(n, "d", 500 - i);
+        }
+        v.make();
+        check.same("fault", v.load().fault(), 0);
+        check.same("by the reference", Reference.fault(v.image), 0);
+    }
+
+    static void promise6_sound_aReservedInodeMayComeUp(Check check) {
+        Volumes.expectMade(check, "inodes 1, 5 and 11", 0, v -> {
+            v.file(v.root, "five", 5, 2000);
+            v.directory(v.root, "one", 1);
+        });
+    }
+
+    static void promise6_sound_twoItemsOfOneName(Check check) {
+        Volumes.expectMade(check, "two of one name", 0, v -> v.file(v.root, "a", 16, 10));
+    }
+
+    static void promise6_sound_otherBytesOfTheSuperblock(Check check) {
+        Volumes.expect(check, "what the document does not name", 0, v -> {
+            for (int at : new int[] {8, 28, 44, 48, 52, 60, 64, 68, 72, 80, 92, 100, 104, 1020}) {
+                v.poke(Volumes.SUPER + at, 4, 0x01020304 + at);
+            }
+        });
+    }
+
+    static void promise6_sound_otherBytesOfTheDescriptors(Check check) {
+        Volumes.expect(check, "what the document does not name", 0, v -> {
+            v.poke(Volumes.DESCRIPTORS + 18, 8, -1);
+            v.poke(Volumes.DESCRIPTORS + 26, 6, -1);
+            v.poke(Volumes.DESCRIPTORS + 32 + 18, 8, -1);
+            v.poke(Volumes.DESCRIPTORS + 64, 8, -1);
+            v.poke(3071, 1, 7);
+        });
+    }
+
+    static void promise6_sound_otherBytesOfAnInode(Check check) {
+        for (int inode : new int[] {2, 11, 12, 14, 15, 20}) {
+            Volumes.expect(check, "what the document does not name in inode " + inode, 0, v -> {
+                int at = v.inodePlace(inode);
+                v.poke(at, 2, v.peek(at, 2) | 4095);
+                v.poke(at + 2, 2, 77);
+                v.poke(at + 8, 8, -1);
+                v.poke(at + 16, 8, -1);
+                v.poke(at + 24, 2, 3);
+                v.poke(at + 32, 8, -1);
+                for (int i = 100; i < 128; i += 4) {
+                    v.poke(at + i, 4, -1);
+                }
+            });
+        }
+    }
+
+    static void promise6_sound_bytesOfBlock0AndOfFreeBlocks(Check check) {
+        Volumes.expect(check, "blocks that nobody has", 0, v -> {
+            v.poke(0, 8, -1);
+            v.poke(1016, 8, -1);
+            v.poke(1024 * 127 + 1016, 8, -1);
+        });
+    }
+
+    /** The fault is looked for anew behind each change, and only by what stands there then. */
+    static void promise6_sound_behindAFaultThatIsMended(Check check) {
+        VolumeMaker v = Volumes.small().make();
+        InodeVolumes x = v.load();
+        int links = v.inodePlace(12) + 26;
+        for (int round = 0; round < 8; round++) {
+            check.same("sound again", x.fault(), 0);
+            check.same("a put", x.put(links, 2, 2), true);
+            check.same("behind the put", x.fault(), 6);
+            check.same("a refused put", x.put(links, 9, 1), false);
+            check.same("behind the refused put", x.fault(), 6);
+            check.same("put back", x.fill(links, 1, 1), true);
+            check.same("sound behind the fill", x.fault(), 0);
+            check.same("a copy", x.copy(1024, 2048, 1024), true);
+            check.same("behind the copy", x.fault(), 2);
+            check.same("copied back", x.copy(1024 * 66, 2048, 1024), true);
+        }
+    }
+
+    static void promise6_sound_askingLeavesHereAlone(Check check) {
+        InodeVolumes x = Volumes.inSub();
+        check.same("fault", x.fault(), 0);
+        check.yes("HERE is sub", Volumes.isInSub(x));
+    }
+}
