@@ -80,11 +80,10 @@ public final class Promise01NewObjectTest {
     }
 
     static void promise1_the512thCallIsAnswered(Check check) {
-        int[] calls = new int[1];
         VolumeMaker v = Volumes.small().make();
-        InodeVolumes x = v.load(calls);
+        InodeVolumes x = v.load();
         check.same("enter", x.enter(Volumes.SUB), 2);
-        for (int call = calls[0] + 2; call < 512; call++) {
+        for (int call = v.calls() + 2; call < 512; call++) {
             check.same("call " + call, x.items(), 2);
         }
         check.same("call 512", x.about(Volumes.LONG_FILE, 2), 13 * 1024 + 1);

@@ -6,21 +6,25 @@ public final class Promise02to05ByChanceTest {
         Cases.run(Promise02to05ByChanceTest.class);
     }
 
-    /** At and round the edges, and where the ranges overlap. */
+    /** At and round the edges, and where the ranges overlap; then the bytes there and some others are looked at. */
     static void promise2to5_asOnARowOfBytes(Check check) {
         Random random = new Random(11);
-        for (int run = 0; run < 60; run++) {
+        for (int run = 0; run < 400; run++) {
             int blocks = 128 + random.nextInt(385);
             int end = 1024 * blocks;
             InodeVolumes x = new InodeVolumes(blocks);
             byte[] row = new byte[end];
-            for (int call = 0; call < 300; call++) {
+            for (int call = 0; call < 200; call++) {
                 one(check, x, row, end, random);
             }
-            for (int at = 0; at < end; at++) {
-                if (x.byteAt(at) != (row[at] & 255)) {
-                    check.same("byte " + at + " of run " + run, x.byteAt(at), row[at] & 255);
+            for (int i = 0; i < 90; i++) {
+                for (int at : new int[] {i, 1990 + i, end - 80 + i}) {
+                    check.same("byte " + at + " of run " + run, x.byteAt(at), at < end ? row[at] & 255 : -1);
                 }
+            }
+            for (int i = 0; i < 40; i++) {
+                int at = random.nextInt(end);
+                check.same("byte " + at + " of run " + run, x.byteAt(at), row[at] & 255);
             }
         }
     }

@@ -21,11 +21,28 @@ public final class Promise06Fault0SoundTest {
         }
     }
 
+    /** A last group of less than 5 blocks has no room for what is fixed. */
+    static void promise6_sound_everyNumberOfBlocks(Check check) {
+        for (int perGroup = 64; perGroup <= 256; perGroup *= 2) {
+            for (int blocks = 128; blocks <= 512; blocks++) {
+                VolumeMaker v = new VolumeMaker(blocks, perGroup, 8);
+                if (v.roomy()) {
+                    Volumes.judge(check, blocks + " blocks, " + perGroup + " in a group", 0, v.make());
+                }
+            }
+        }
+    }
+
+    static void promise6_sound_everyNumberOfInodes(Check check) {
+        for (int inodes = 8; inodes <= 8 * 251; inodes += 8) {
+            Volumes.judge(check, inodes + " inodes in a group", 0, new VolumeMaker(512, 256, inodes).make());
+        }
+    }
+
     static void promise6_sound_everyBlockIsUsed(Check check) {
         VolumeMaker v = Volumes.full();
         check.same("free blocks", v.freeBlocks(), 0);
-        check.same("fault", v.load().fault(), 0);
-        check.same("by the reference", Reference.fault(v.image), 0);
+        Volumes.judge(check, "two groups, full", 0, v);
         v = Volumes.bare();
         v.file(v.root, "all", 3, 120 * 1024).blank = true;
         v.make();
@@ -41,28 +58,6 @@ public final class Promise06Fault0SoundTest {
         v.make();
         check.same("free inodes", v.peek(Volumes.SUPER + 16, 4), 0);
         Volumes.judge(check, "no inode is free", 0, v);
-    }
-
-    /** Far more items than blocks, since files of no size have none. */
-    static void promise6_sound_thousandsOfItems(Check check) {
-        VolumeMaker v = new VolumeMaker(512, 256, 1600);
-        for (int i = 12; i <= 3200; i++) {
-            v.file(v.root, "" + i, i, 0);
-        }
-        v.make();
-        check.same("fault", v.load().fault(), 0);
-        check.same("by the reference", Reference.fault(v.image), 0);
-    }
-
-    static void promise6_sound_aChainOfManyDirectories(Check check) {
-        VolumeMaker v = new VolumeMaker(512, 256, 256);
-        VolumeMaker.Node n = v.root;
-        for (int i = 0; i < 430; i++) {
-            n = v.directory(n, "d", 500 - i);
-        }
-        v.make();
-        check.same("fault", v.load().fault(), 0);
-        check.same("by the reference", Reference.fault(v.image), 0);
     }
 
     static void promise6_sound_aReservedInodeMayComeUp(Check check) {
@@ -135,6 +130,44 @@ public final class Promise06Fault0SoundTest {
             check.same("a copy", x.copy(1024, 2048, 1024), true);
             check.same("behind the copy", x.fault(), 2);
             check.same("copied back", x.copy(1024 * 66, 2048, 1024), true);
+        }
+    }
+
+    /** The volume before had more directories, files and blocks in it. */
+    static void promise6_sound_behindAVolumeWithMoreInIt(Check check) {
+        VolumeMaker more = new VolumeMaker(128, 64, 16);
+        for (int i = 0; i < 6; i++) {
+            more.directory(more.root, "d" + i, 12 + i);
+        }
+        more.make();
+        VolumeMaker less = new VolumeMaker(128, 64, 16).make();
+        InodeVolumes x = more.load();
+        check.same("with 6 directories", x.fault(), 0);
+        Volumes.carry(x, less.image, more.image);
+        check.same("with none", x.fault(), 0);
+        check.same("items", x.items(), 0);
+        Volumes.carry(x, more.image, less.image);
+        check.same("with 6 again", x.fault(), 0);
+        check.same("items", x.items(), 6);
+    }
+
+    /** The directory that came last before comes earlier now, in another one, and fewer come. */
+    static void promise6_sound_behindAVolumeWithOtherParents(Check check) {
+        VolumeMaker one = new VolumeMaker(128, 64, 16);
+        VolumeMaker.Node first = one.directory(one.root, "first", 12);
+        one.directory(one.root, "second", 13);
+        one.directory(first, "third", 14);
+        one.make();
+        VolumeMaker other = new VolumeMaker(128, 64, 16);
+        other.directory(other.root, "third", 14);
+        other.directory(other.root, "first", 12);
+        other.make();
+        InodeVolumes x = one.load();
+        for (int round = 0; round < 2; round++) {
+            check.same("the one", x.fault(), 0);
+            Volumes.carry(x, other.image, one.image);
+            check.same("the other", x.fault(), 0);
+            Volumes.carry(x, one.image, other.image);
         }
     }
 

@@ -56,6 +56,18 @@ public final class Promise06Fault1SuperblockTest {
         }
     }
 
+    static void promise6_fault1_at32Is0WhereAllInodesAre0(Check check) {
+        Volumes.expect(check, "0 at 0, 32 and 36", 1, v -> {
+            v.poke(Volumes.SUPER, 4, 0);
+            v.poke(Volumes.SUPER + 32, 8, 0);
+        });
+        Volumes.expect(check, "0 at 0, 32, 36 and 40", 1, v -> {
+            v.poke(Volumes.SUPER, 4, 0);
+            v.poke(Volumes.SUPER + 32, 8, 0);
+            v.poke(Volumes.SUPER + 40, 4, 0);
+        });
+    }
+
     static void promise6_fault1_at36IsTheSameAsAt32(Check check) {
         isFault(check, 36, 4, 0, 63, 65, 128, 256);
         VolumeMaker v = Volumes.small(512, 256, 16).make();

@@ -22,6 +22,19 @@ public final class Promise06Fault2CopiesTest {
         }
     }
 
+    /** Where it could not be seen from the second block, as that would be zeros as the descriptors are. */
+    static void promise6_fault2_aLastGroupOfOneBlockWhereTheDescriptorsAreZeros(Check check) {
+        for (int[] s : new int[][] {{130, 64}, {130, 128}, {258, 256}, {450, 64}}) {
+            VolumeMaker v = new VolumeMaker(s[0], s[1], 8);
+            v.describe();
+            for (int at = 0; at < 1024; at += 8) {
+                v.poke(Volumes.DESCRIPTORS + at, 8, 0);
+            }
+            v.mirror();
+            Volumes.judge(check, s[0] + " blocks, " + s[1] + " in a group", 2, v);
+        }
+    }
+
     static void promise6_fault2_notWithALastGroupOfTwoBlocks(Check check) {
         for (int[] s : new int[][] {{131, 64}, {131, 128}, {195, 64}, {259, 256}, {387, 128}}) {
             VolumeMaker v = described(s[0], s[1]);

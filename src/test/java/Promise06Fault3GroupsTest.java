@@ -19,7 +19,8 @@ public final class Promise06Fault3GroupsTest {
         for (int g = 0; g < 2; g++) {
             int at = Volumes.DESCRIPTORS + 32 * g + 4;
             int m = 3 + 64 * g;
-            for (long map : new long[] {0, m - 1, m, m + 2, m + 30, m + 1 + (1 << 16), 0xFFFFFFFFL}) {
+            for (long map : new long[] {0, m - 1, m, m + 2, m + 30, m + 1 + (1 << 16), m + 1 + (1 << 24), m + 1 + (1L << 31),
+                0xFFFFFFFFL}) {
                 Volumes.expect(check, "the inode map of group " + g + " at " + map, 3, v -> v.poke(at, 4, map));
             }
         }
@@ -29,7 +30,8 @@ public final class Promise06Fault3GroupsTest {
         for (int g = 0; g < 2; g++) {
             int at = Volumes.DESCRIPTORS + 32 * g + 8;
             int m = 3 + 64 * g;
-            for (long first : new long[] {0, m, m + 1, m + 3, m + 30, m + 2 + (1 << 24), 0xFFFFFFFFL}) {
+            for (long first : new long[] {0, m, m + 1, m + 3, m + 30, m + 2 + (1 << 16), m + 2 + (1 << 24), m + 2 + (1L << 31),
+                0xFFFFFFFFL}) {
                 Volumes.expect(check, "the inodes of group " + g + " at " + first, 3, v -> v.poke(at, 4, first));
             }
         }
@@ -47,6 +49,16 @@ public final class Promise06Fault3GroupsTest {
     static void promise6_fault3_theDescriptorsBlockIsNotFixedTwice(Check check) {
         mapsAt(check, 0, 2, 3);
         mapsAt(check, 1, 66, 3);
+    }
+
+    static void promise6_fault3_theBlockMapAloneIsElsewhere(Check check) {
+        for (int g = 0; g < 2; g++) {
+            int at = Volumes.DESCRIPTORS + 32 * g;
+            int m = 3 + 64 * g;
+            for (long map : new long[] {0, m - 1, m + 1, m + 30, m + (1 << 16), m + (1 << 24), m + (1L << 31)}) {
+                Volumes.expect(check, "the block map of group " + g + " at " + map, 3, v -> v.poke(at, 4, map));
+            }
+        }
     }
 
     static void promise6_fault3_notRightBehindTheDescriptors(Check check) {

@@ -66,8 +66,7 @@ public final class Promise06Fault4WholeTest {
         v.poke(at + 4, 4, 512 * 1024);
         v.poke(at + 28, 4, 2 * (512 + 3));
         v.mirror();
-        check.same("a size of 1024 * B", v.load().fault(), 4);
-        check.same("by the reference", Reference.fault(v.image), 4);
+        Volumes.judge(check, "a size of 1024 * B", 4, v);
     }
 
     static void promise6_fault4_at28AreTwiceTheBlocks(Check check) {
@@ -128,6 +127,7 @@ public final class Promise06Fault4WholeTest {
     static void promise6_fault4_anUnwanted13thPointer(Check check) {
         for (int inode : new int[] {2, 11, 12, 13, 15, 20}) {
             isFault(check, "inode " + inode, v -> v.poke(v.inodePlace(inode) + 88, 4, FREE));
+            isFault(check, "inode " + inode + ", highest byte", v -> v.poke(v.inodePlace(inode) + 91, 1, 1));
         }
         VolumeMaker v = Volumes.withFile(12);
         v.poke(v.inodePlace(12) + 88, 4, 500);
@@ -137,6 +137,7 @@ public final class Promise06Fault4WholeTest {
     static void promise6_fault4_anUnwanted14thPointer(Check check) {
         for (int inode : ALL) {
             isFault(check, "inode " + inode, v -> v.poke(v.inodePlace(inode) + 92, 4, FREE));
+            isFault(check, "inode " + inode + ", highest byte", v -> v.poke(v.inodePlace(inode) + 95, 1, 1));
         }
         for (int n : new int[] {13, 267, 268}) {
             VolumeMaker v = Volumes.withFile(n);
@@ -273,6 +274,21 @@ public final class Promise06Fault4WholeTest {
             v = Volumes.withFile(480);
             v.poke(1024 * inner(v, 12) + 4 * 211, 4, b);
             Volumes.judge(check, "the 480th block is " + b, 4, v);
+        }
+    }
+
+    /** The right block but for a bit far above the number of blocks. */
+    static void promise6_fault4_theHighBitsOfEachPointer(Check check) {
+        VolumeMaker made = Volumes.withFile(269);
+        int inode = made.inodePlace(12);
+        int[] pointers = {inode + 40, inode + 84, inode + 88, inode + 92, 1024 * indirect(made, 12),
+            1024 * indirect(made, 12) + 1020, 1024 * outer(made, 12), 1024 * inner(made, 12)};
+        for (int at : pointers) {
+            for (int bit : new int[] {9, 16, 23, 24, 31}) {
+                VolumeMaker v = Volumes.withFile(269);
+                v.poke(at, 4, v.peek(at, 4) + (1L << bit));
+                Volumes.judge(check, "bit " + bit + " of the pointer at " + at, 4, v);
+            }
         }
     }
 

@@ -377,19 +377,4 @@ public final class Promise06Fault5EntriesTest {
             v.poke(at, 2, 1024);
         }
     }
-
-    /** Far more directories than blocks, since they are whole without one. */
-    static void promise6_fault5_thousandsOfDirectoriesOfNoSize(Check check) {
-        VolumeMaker v = new VolumeMaker(512, 256, 1600);
-        for (int i = 12; i <= 3200; i++) {
-            v.file(v.root, "" + i, i, 0);
-        }
-        v.make();
-        for (int k = 0; k < 3189; k++) {
-            v.poke(v.inodePlace(12 + k), 2, 16384);
-            v.poke(v.entryPlace(v.root, k) + 7, 1, 2);
-        }
-        check.same("fault", v.load().fault(), 5);
-        check.same("by the reference", Reference.fault(v.image), 5);
-    }
 }

@@ -40,19 +40,19 @@ public final class Promise06Fault6LinksTest {
 
     /** Not the directories further below, and no files. */
     static void promise6_fault6_onlyDirectoriesRightInIt(Check check) {
-        VolumeMaker v = new VolumeMaker(512, 256, 64);
+        VolumeMaker v = new VolumeMaker(128, 256, 64);
         VolumeMaker.Node top = v.directory(v.root, "top", 12);
-        for (int i = 0; i < 40; i++) {
-            VolumeMaker.Node d = v.directory(top, "d" + i, 20 + i);
-            v.file(d, "f", 70 + i, 0);
+        for (int i = 0; i < 20; i++) {
+            v.directory(top, "d" + i, 20 + i);
+            v.file(top, "f" + i, 41 + i, 0);
         }
-        v.directory(Volumes.inside(top, 7), "below", 13);
+        v.directory(Volumes.inside(top, 6), "below", 13);
         v.make();
-        check.same("links of top", v.peek(v.inodePlace(12) + 26, 2), 42);
-        check.same("fault", v.load().fault(), 0);
-        v.poke(v.inodePlace(12) + 26, 2, 43);
-        check.same("with the one further below", v.load().fault(), 6);
-        v.poke(v.inodePlace(12) + 26, 2, 2);
-        check.same("with none", v.load().fault(), 6);
+        check.same("links of top", v.peek(v.inodePlace(12) + 26, 2), 22);
+        Volumes.judge(check, "20 directories and 20 files", 0, v);
+        for (int n : new int[] {2, 3, 21, 23, 42}) {
+            v.poke(v.inodePlace(12) + 26, 2, n);
+            Volumes.judge(check, n + " links", 6, v);
+        }
     }
 }

@@ -15,21 +15,16 @@ public final class Promise11EnterTest {
     }
 
     static void promise11_answersHowManyItemsItHas(Check check) {
-        VolumeMaker v = new VolumeMaker(512, 256, 128);
-        int[] counts = {0, 1, 2, 83, 84};
-        int inode = 20;
-        for (int i = 0; i < counts.length; i++) {
-            VolumeMaker.Node d = v.directory(v.root, "d" + i, 12 + i);
-            for (int k = 0; k < counts[i]; k++) {
-                v.file(d, "f" + k, inode++, 0);
+        for (int count : new int[] {0, 1, 2, 82, 83, 84}) {
+            VolumeMaker v = new VolumeMaker(128, 256, 128);
+            VolumeMaker.Node d = v.directory(v.root, "d", 12);
+            for (int k = 0; k < count; k++) {
+                v.file(d, "f" + k, 13 + k, 0);
             }
-        }
-        v.make();
-        InodeVolumes x = v.load();
-        for (int i = 0; i < counts.length; i++) {
-            check.same("enter a directory of " + counts[i], x.enter(i), counts[i]);
-            check.same("items", x.items(), counts[i]);
-            check.same("up", x.up(), true);
+            Renewed x = new Renewed(v.make());
+            check.same("its blocks", d.blocks.size(), count > 83 ? 2 : 1);
+            check.same("enter a directory of " + count, x.enter(0), count);
+            check.same("items", x.items(), count);
         }
     }
 
@@ -85,18 +80,5 @@ public final class Promise11EnterTest {
                 check.raises("fault " + x.fault() + ", item " + k, Volumes.STATE, () -> x.enter(k));
             }
         }
-    }
-
-    static void promise11_hundredsOfLevelsBelow(Check check) {
-        VolumeMaker v = new VolumeMaker(512, 256, 256);
-        VolumeMaker.Node n = v.root;
-        for (int i = 0; i < 430; i++) {
-            n = v.directory(n, "d", 500 - i);
-        }
-        InodeVolumes x = v.make().load();
-        for (int i = 0; i < 430; i++) {
-            check.same("level " + i, x.enter(0), i < 429 ? 1 : 0);
-        }
-        check.raises("below the last", Volumes.BOUNDS, () -> x.enter(0));
     }
 }

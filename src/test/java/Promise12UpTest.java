@@ -37,19 +37,19 @@ public final class Promise12UpTest {
         check.yes("HERE is the root", Volumes.isInRoot(x));
     }
 
-    static void promise12_fromHundredsOfLevelsBelow(Check check) {
-        VolumeMaker v = new VolumeMaker(512, 256, 256);
+    static void promise12_fromManyLevelsBelow(Check check) {
+        VolumeMaker v = new VolumeMaker(128, 64, 32);
         VolumeMaker.Node n = v.root;
-        for (int i = 0; i < 200; i++) {
-            n = v.directory(n, "d", 500 - i);
+        for (int i = 0; i < 25; i++) {
+            n = v.directory(n, "d", 64 - i);
         }
-        InodeVolumes x = v.make().load();
-        for (int i = 0; i < 200; i++) {
-            x.enter(0);
+        Renewed x = new Renewed(v.make());
+        for (int i = 0; i < 25; i++) {
+            check.same("enter level " + (i + 1), x.enter(0), i < 24 ? 1 : 0);
         }
-        for (int i = 200; i > 0; i--) {
+        for (int i = 25; i > 0; i--) {
             check.same("up from level " + i, x.up(), true);
-            check.same("the item of level " + (i - 1), x.about(0, 0), 501 - i);
+            check.same("the item of level " + (i - 1), x.about(0, 0), 65 - i);
         }
         check.same("up from the root", x.up(), false);
     }

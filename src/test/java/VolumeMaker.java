@@ -233,7 +233,7 @@ final class VolumeMaker {
 
     /** The directory's bytes: each entry as short as it can be, the last one of a block up to its end. */
     private byte[] entries(Node n) {
-        byte[] bytes = new byte[64 * 1024];
+        byte[] bytes = new byte[image.length];
         int[] end = {0, 0};
         place(bytes, end, n.inode, new byte[] {'.'}, 2);
         if (n.dotAlone) {
@@ -364,44 +364,42 @@ final class VolumeMaker {
         }
     }
 
+    /** A new object with the image on its disk. */
     InodeVolumes load() {
         return loadInto(new InodeVolumes(blocks));
     }
 
-    /** A new object with the image on its disk; calls gets the number of calls that it took. */
-    InodeVolumes load(int[] calls) {
-        return load(new InodeVolumes(blocks), calls);
-    }
-
     InodeVolumes loadInto(InodeVolumes empty) {
-        return load(empty, new int[1]);
+        for (int[] part : parts()) {
+            int at = part[0];
+            int n = part[1];
+            boolean done = n > 8 ? empty.fill(at, n, image[at]) : empty.put(at, n, peek(at, n));
+            if (!done) {
+                throw new IllegalStateException("a put or fill on the disk was refused");
+            }
+        }
+        return empty;
     }
 
-    private InodeVolumes load(InodeVolumes volume, int[] calls) {
+    /** How many calls it takes to load the image. */
+    int calls() {
+        return parts().size();
+    }
+
+    /** The places that are not 0: at most 8 bytes for a put each, or more that are all alike for a fill. */
+    private List<int[]> parts() {
+        List<int[]> parts = new ArrayList<>();
         for (int at = 0; at < image.length;) {
             int run = 1;
             while (at + run < image.length && image[at + run] == image[at]) {
                 run++;
             }
-            if (image[at] == 0) {
-                at += run;
-                continue;
+            int n = run > 8 || image[at] == 0 ? run : Math.min(8, image.length - at);
+            if (image[at] != 0) {
+                parts.add(new int[] {at, n});
             }
-            boolean done;
-            int n;
-            if (run > 8) {
-                n = run;
-                done = volume.fill(at, n, image[at]);
-            } else {
-                n = Math.min(8, image.length - at);
-                done = volume.put(at, n, peek(at, n));
-            }
-            if (!done) {
-                throw new IllegalStateException("a put or fill on the disk was refused");
-            }
-            calls[0]++;
             at += n;
         }
-        return volume;
+        return parts;
     }
 }

@@ -16,7 +16,6 @@ final class Volumes {
     static final int DEEP = 0;
     static final int LONG_FILE = 1;
     static final int SMALL_END = 128 * 1024;
-    private static final int MOST_CALLS = 512;
 
     private Volumes() {
     }
@@ -59,7 +58,7 @@ final class Volumes {
     static VolumeMaker full() {
         VolumeMaker v = new VolumeMaker(512, 256, 8);
         v.any = new Random(3);
-        v.file(v.root, "all", 3, 497 * 1024);
+        v.file(v.root, "all", 3, 497 * 1024).blank = true;
         return v.make();
     }
 
@@ -86,20 +85,40 @@ final class Volumes {
 
     /** The volume's fault, by the class and by the reference, within the calls that an object is used for. */
     static void judge(Check check, String what, int due, VolumeMaker v) {
-        int[] calls = new int[1];
-        InodeVolumes x = v.load(calls);
+        InodeVolumes x = v.load();
         check.same(what, x.fault(), due);
         check.same(what + " (asked again)", x.fault(), due);
         check.same(what + " (by the reference)", Reference.fault(v.image), due);
-        check.yes(what + " takes " + calls[0] + " calls", calls[0] + 2 <= MOST_CALLS);
+        check.yes(what + " takes " + v.calls() + " calls", v.calls() + 2 <= Renewed.MOST_CALLS);
     }
 
     /** The small volume, made, changed, and its copies changed with it. */
     static void expect(Check check, String what, int due, Consumer<VolumeMaker> change) {
         VolumeMaker v = small().make();
+        InodeVolumes x = v.load();
+        byte[] sound = v.image.clone();
         change.accept(v);
         v.mirror();
         judge(check, what, due, v);
+        judgeBehind(check, what, due, x, sound, v.image);
+    }
+
+    /** The fault in an object that was asked before the change, and behind it: nothing may be left of what it found. */
+    static void judgeBehind(Check check, String what, int due, InodeVolumes x, byte[] sound, byte[] changed) {
+        check.same(what + " (before it)", x.fault(), 0);
+        carry(x, changed, sound);
+        check.same(what + " (behind a sound volume)", x.fault(), due);
+        carry(x, sound, changed);
+        check.same(what + " (mended)", x.fault(), 0);
+    }
+
+    /** Puts what differs. */
+    static void carry(InodeVolumes x, byte[] now, byte[] before) {
+        for (int at = 0; at < now.length; at++) {
+            if (now[at] != before[at]) {
+                x.put(at, 1, now[at]);
+            }
+        }
     }
 
     /** The same, but the change comes ahead of the making. */
@@ -150,11 +169,7 @@ final class Volumes {
                 v.mirror();
             }
             all[fault] = inSub();
-            for (int at = 0; at < sound.length; at++) {
-                if (v.image[at] != sound[at]) {
-                    all[fault].put(at, 1, v.image[at]);
-                }
-            }
+            carry(all[fault], v.image, sound);
         }
         return all;
     }
