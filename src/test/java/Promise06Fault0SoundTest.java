@@ -60,6 +60,21 @@ public final class Promise06Fault0SoundTest {
         Volumes.judge(check, "no inode is free", 0, v);
     }
 
+    /** Inode i is number (i - 1) % G of group (i - 1) / G: the last of a group, and the first of the next one. */
+    static void promise6_sound_inodesAtTheEdgesOfGroups(Check check) {
+        Volumes.expectMade(check, "inodes 16, 17 and 32 of 16 in a group", 0, v -> {
+            v.file(v.root, "last", 16, 2000);
+            v.directory(v.root, "first", 17);
+            v.file(v.root, "last of all", 32, 1);
+        });
+        VolumeMaker v = new VolumeMaker(512, 64, 8);
+        for (int g = 2; g < 8; g++) {
+            v.file(v.root, "first", 8 * g + 1, 1);
+            v.directory(v.root, "last", 8 * g + 8);
+        }
+        Volumes.judge(check, "the first and the last of groups of 8", 0, v.make());
+    }
+
     static void promise6_sound_aReservedInodeMayComeUp(Check check) {
         Volumes.expectMade(check, "inodes 1, 5 and 11", 0, v -> {
             v.file(v.root, "five", 5, 2000);

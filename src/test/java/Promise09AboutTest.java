@@ -26,11 +26,15 @@ public final class Promise09AboutTest {
     static void promise9_0IsItsInode(Check check) {
         answers(check, INODE, 11, 12, 20, 15, 13, 14);
         VolumeMaker v = Volumes.small();
-        v.file(v.root, "first", 1, 5);
-        v.file(v.root, "last", 32, 5);
+        int[] edges = {1, 16, 17, 32};
+        for (int inode : edges) {
+            v.file(v.root, "at a group's edge", inode, 100 + inode);
+        }
         InodeVolumes x = v.make().load();
-        check.same("the first inode", x.about(4, INODE), 1);
-        check.same("the last inode", x.about(5, INODE), 32);
+        for (int i = 0; i < edges.length; i++) {
+            check.same("inode " + edges[i], x.about(4 + i, INODE), edges[i]);
+            check.same("its size", x.about(4 + i, SIZE), 100 + edges[i]);
+        }
     }
 
     static void promise9_1IsWhetherItIsADirectory(Check check) {
