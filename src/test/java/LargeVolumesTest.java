@@ -69,6 +69,23 @@ public final class LargeVolumesTest {
         check.raises("item 0", Volumes.BOUNDS, () -> x.about(0, 0));
     }
 
+    /** Links, and a group's directories, of more than a byte. */
+    static void promises6and9_hundredsOfDirectoriesInOne(Check check) {
+        VolumeMaker v = new VolumeMaker(512, 256, 400);
+        VolumeMaker.Node top = v.directory(v.root, "top", 12);
+        for (int i = 0; i < 300; i++) {
+            v.directory(top, "d" + i, 20 + i);
+        }
+        InodeVolumes x = v.make().load();
+        check.same("fault", x.fault(), 0);
+        check.same("by the reference", Reference.fault(v.image), 0);
+        check.same("links", x.about(0, 3), 302);
+        check.same("items", x.enter(0), 300);
+        int second = v.inodePlace(12) + 27;
+        check.same("the links' second byte", x.put(second, 1, 0), true);
+        check.same("46 links", x.fault(), 6);
+    }
+
     static void promises6to12_hundredsOfLevels(Check check) {
         VolumeMaker v = new VolumeMaker(512, 256, 256);
         VolumeMaker.Node n = v.root;
