@@ -96,6 +96,15 @@ public final class Promise06Fault7InodesTest {
         Volumes.expect(check, "inode 11, where it did not come up", 7, v -> takeOut(v, false));
     }
 
+    /** Its block is "nobody else's" all the same, since only the root and those that came up have blocks. */
+    static void promise6_fault7_aBlockOfTheRootThatAnInodeOutsideNamesToo(Check check) {
+        for (int i : new int[] {1, 5, 16, 32}) {
+            int inode = i;
+            Volumes.expect(check, "inode " + i + " is a copy of the root's", 7, v ->
+                    System.arraycopy(v.image, v.inodePlace(2), v.image, v.inodePlace(inode), 128));
+        }
+    }
+
     static void promise6_fault7_anItemThatBecomesEmpty(Check check) {
         Volumes.expect(check, "the entry of none", 7, v -> v.poke(v.entryPlace(v.root, Volumes.EMPTY_FILE), 4, 0));
         Volumes.expect(check, "all items of the root", 7, v -> {
